@@ -104,6 +104,9 @@ public final class AimTest {
         DrillRows prime = Check.drilling("e1@0p0;a1e1>1<9w6;a2e1>2<9w7;");
         prime.act(0, 2);
         scoreIs(prime, 0, 7, 13);
+        DrillRows outermost = Check.drilling("e1@0p0;a20e1>1<9w5;a1e1>2<9w2;");
+        outermost.act(0, 1);
+        scoreIs(outermost, 0, 5, 7);
     }
 
     private static void scoreRefusals() {
