@@ -60,6 +60,26 @@ final class Check {
         return x.read();
     }
 
+    /** A right text: taken by a new object, with so many events. */
+    static void right(String text, int events) {
+        DrillRows x = new DrillRows();
+        sign(x, text);
+        try {
+            same("events of '" + text + "'", x.read(), events);
+        } catch (IllegalStateException e) {
+            report("'" + text + "' was refused");
+        }
+        same("place of '" + text + "'", x.place(), -1);
+    }
+
+    /** A wrong text: refused by a new object, at that place. */
+    static void wrong(String text, int place) {
+        DrillRows x = new DrillRows();
+        sign(x, text);
+        refused("read of '" + text + "'", STATE, x::read);
+        same("place of '" + text + "'", x.place(), place);
+    }
+
     /** A new object with a script that is read. */
     static DrillRows with(String text) {
         DrillRows x = new DrillRows();

@@ -10,7 +10,9 @@ import java.util.TreeMap;
  */
 public final class ModelTest {
     private static final int RUNS = 400;
-    private static final int CALLS = 500;
+    /** A last text may take some forty calls more, and an object is used for 512. */
+    private static final int CALLS = 470;
+    private static final int[] EDGES = {Integer.MIN_VALUE, Integer.MAX_VALUE};
 
     public static void main(String[] args) {
         for (int run = 0; run < RUNS; run++) {
@@ -116,9 +118,13 @@ public final class ModelTest {
             }
         }
 
-        /** Mostly within 0 .. bound - 1, at times just outside of it. */
+        /** Mostly within 0 .. bound - 1, at times just outside of it, or far. */
         private int about(int bound) {
-            return random.nextInt(12) == 0 ? (random.nextBoolean() ? -1 : bound) : random.nextInt(bound);
+            int kind = random.nextInt(50);
+            if (kind < 4) {
+                return random.nextBoolean() ? -1 : bound;
+            }
+            return kind == 4 ? EDGES[random.nextInt(2)] : random.nextInt(bound);
         }
 
         private void compare(String call, Check.Call real, Check.Call model) {
@@ -190,7 +196,7 @@ public final class ModelTest {
                 }
             }
             Check.sign(rows, text.toString());
-            calls += text.length() / 8;
+            calls += (text.length() + 7) / 8;
             compare("read of " + text, rows::read, () -> made.events.size());
             compare("place", rows::place, () -> -1);
             script = made;

@@ -69,147 +69,133 @@ public final class ScriptTest {
     }
 
     private static void rightTexts() {
-        right("e1@0p0;", 1);
-        right("e40@9999p9!f9;", 1);
-        right("e1@0p0!;", 1);
-        right("e1@0p0f1;", 1);
-        right("e1>0+0~0p0;", 1);
-        right("e1>19+999~9999p9!f9;", 1);
-        right("e2@0p0;e1@0p0;e3@0p0;", 3);
-        right("e1@0p0;a1e1>0<1w1;a20e1>19<999w9;e10@1p1;a2e10>1<1w1;", 2);
-    }
-
-    private static void right(String text, int events) {
-        DrillRows x = new DrillRows();
-        Check.sign(x, text);
-        Check.same("events of " + text, x.read(), events);
-        Check.same("place of " + text, x.place(), -1);
-    }
-
-    private static void wrong(String text, int place) {
-        DrillRows x = new DrillRows();
-        Check.sign(x, text);
-        Check.refused("read of '" + text + "'", Check.STATE, x::read);
-        Check.same("place of '" + text + "'", x.place(), place);
+        Check.right("e1@0p0;", 1);
+        Check.right("e40@9999p9!f9;", 1);
+        Check.right("e1@0p0!;", 1);
+        Check.right("e1@0p0f1;", 1);
+        Check.right("e1>0+0~0p0;", 1);
+        Check.right("e1>19+999~9999p9!f9;", 1);
+        Check.right("e2@0p0;e1@0p0;e3@0p0;", 3);
+        Check.right("e1@0p0;a1e1>0<1w1;a20e1>19<999w9;e10@1p1;a2e10>1<1w1;", 2);
     }
 
     private static void wrongRows() {
-        wrong(";", 0);
-        wrong("x", 0);
-        wrong("E1@0p0;", 0);
-        wrong("1", 0);
-        wrong("\t", 0);
-        wrong("\0", 0);
-        wrong("e1@0p0;;", 7);
-        wrong("e1@0p0;b", 7);
-        wrong("e1@0p0", 6);
-        wrong("e1@0p0 e", 7);
-        wrong("e1@0p0;a1e1>0<1w1", 17);
+        Check.wrong(";", 0);
+        Check.wrong("x", 0);
+        Check.wrong("E1@0p0;", 0);
+        Check.wrong("1", 0);
+        Check.wrong("\t", 0);
+        Check.wrong("\0", 0);
+        Check.wrong("e1@0p0;;", 7);
+        Check.wrong("e1@0p0;b", 7);
+        Check.wrong("e1@0p0", 6);
+        Check.wrong("e1@0p0 e", 7);
+        Check.wrong("e1@0p0;a1e1>0<1w1", 17);
     }
 
     private static void wrongEvents() {
-        wrong("e", 1);
-        wrong("e1", 2);
-        wrong("ex", 1);
-        wrong("e1p", 2);
-        wrong("e1@", 3);
-        wrong("e1@p", 3);
-        wrong("e1@1", 4);
-        wrong("e1@1;", 4);
-        wrong("e1@1p", 5);
-        wrong("e1@1p!", 5);
-        wrong("e1@1+", 4);
-        wrong("e1>", 3);
-        wrong("e1>1", 4);
-        wrong("e1>1~", 4);
-        wrong("e1>1+", 5);
-        wrong("e1>1+1", 6);
-        wrong("e1>1+1p", 6);
-        wrong("e1>1+1~", 7);
-        wrong("e1>1+1~1", 8);
-        wrong("e1@1p1!!", 7);
-        wrong("e1@1p1f", 7);
-        wrong("e1@1p1f;", 7);
-        wrong("e1@1p1f1!", 8);
-        wrong("e1@1p1f1f", 8);
-        wrong("e1@1p1!;a", 9);
+        Check.wrong("e", 1);
+        Check.wrong("e1", 2);
+        Check.wrong("ex", 1);
+        Check.wrong("e1p", 2);
+        Check.wrong("e1@", 3);
+        Check.wrong("e1@p", 3);
+        Check.wrong("e1@1", 4);
+        Check.wrong("e1@1;", 4);
+        Check.wrong("e1@1p", 5);
+        Check.wrong("e1@1p!", 5);
+        Check.wrong("e1@1+", 4);
+        Check.wrong("e1>", 3);
+        Check.wrong("e1>1", 4);
+        Check.wrong("e1>1~", 4);
+        Check.wrong("e1>1+", 5);
+        Check.wrong("e1>1+1", 6);
+        Check.wrong("e1>1+1p", 6);
+        Check.wrong("e1>1+1~", 7);
+        Check.wrong("e1>1+1~1", 8);
+        Check.wrong("e1@1p1!!", 7);
+        Check.wrong("e1@1p1f", 7);
+        Check.wrong("e1@1p1f;", 7);
+        Check.wrong("e1@1p1f1!", 8);
+        Check.wrong("e1@1p1f1f", 8);
+        Check.wrong("e1@1p1!;a", 9);
     }
 
     private static void wrongAims() {
         String event = "e1@1p1;";
-        wrong("a1e1>1<1w1;", 3);
-        wrong(event + "a", 8);
-        wrong(event + "a1", 9);
-        wrong(event + "a1>", 9);
-        wrong(event + "a1e", 10);
-        wrong(event + "a1e2>", 10);
-        wrong(event + "a1e12", 11);
-        wrong(event + "a1e1", 11);
-        wrong(event + "a1e1<", 11);
-        wrong(event + "a1e1>", 12);
-        wrong(event + "a1e1>1", 13);
-        wrong(event + "a1e1>1w", 13);
-        wrong(event + "a1e1>1<", 14);
-        wrong(event + "a1e1>1<1", 15);
-        wrong(event + "a1e1>1<1;", 15);
-        wrong(event + "a1e1>1<1w", 16);
-        wrong(event + "a1e1>1<1w1!", 17);
-        wrong(event + "a1e2>1<1w1;e2@1p1;", 10);
+        Check.wrong("a1e1>1<1w1;", 3);
+        Check.wrong(event + "a", 8);
+        Check.wrong(event + "a1", 9);
+        Check.wrong(event + "a1>", 9);
+        Check.wrong(event + "a1e", 10);
+        Check.wrong(event + "a1e2>", 10);
+        Check.wrong(event + "a1e12", 11);
+        Check.wrong(event + "a1e1", 11);
+        Check.wrong(event + "a1e1<", 11);
+        Check.wrong(event + "a1e1>", 12);
+        Check.wrong(event + "a1e1>1", 13);
+        Check.wrong(event + "a1e1>1w", 13);
+        Check.wrong(event + "a1e1>1<", 14);
+        Check.wrong(event + "a1e1>1<1", 15);
+        Check.wrong(event + "a1e1>1<1;", 15);
+        Check.wrong(event + "a1e1>1<1w", 16);
+        Check.wrong(event + "a1e1>1<1w1!", 17);
+        Check.wrong(event + "a1e2>1<1w1;e2@1p1;", 10);
     }
 
     private static void wrongNumbers() {
         String aim = "e1@1p1;a";
-        wrong("e0", 1);
-        wrong("e05", 1);
-        wrong("e41", 2);
-        wrong("e411", 3);
-        wrong("e4111", 4);
-        wrong("e41111", 4);
-        wrong("e1@00", 4);
-        wrong("e1@05", 4);
-        wrong("e1@10000", 7);
-        wrong("e1@123456", 7);
-        wrong("e1>20+", 4);
-        wrong("e1>00", 4);
-        wrong("e1>1+1000~", 8);
-        wrong("e1>1+1~10000", 11);
-        wrong("e1@1p10", 6);
-        wrong("e1@1p1234", 8);
-        wrong("e1@1p12345", 8);
-        wrong("e1@1p1f0", 7);
-        wrong("e1@1p1f10", 8);
-        wrong(aim + "0", 8);
-        wrong(aim + "21", 9);
-        wrong(aim + "1e0", 10);
-        wrong(aim + "1e41", 11);
-        wrong(aim + "1e1>20", 13);
-        wrong(aim + "1e1>1<0", 14);
-        wrong(aim + "1e1>1<1000", 17);
-        wrong(aim + "1e1>1<1w0", 16);
-        wrong(aim + "1e1>1<1w10", 17);
-        wrong("e-1", 1);
-        wrong("e1:", 2);
-        wrong("e1@/", 3);
+        Check.wrong("e0", 1);
+        Check.wrong("e05", 1);
+        Check.wrong("e41", 2);
+        Check.wrong("e411", 3);
+        Check.wrong("e4111", 4);
+        Check.wrong("e41111", 4);
+        Check.wrong("e1@00", 4);
+        Check.wrong("e1@05", 4);
+        Check.wrong("e1@10000", 7);
+        Check.wrong("e1@123456", 7);
+        Check.wrong("e1>20+", 4);
+        Check.wrong("e1>00", 4);
+        Check.wrong("e1>1+1000~", 8);
+        Check.wrong("e1>1+1~10000", 11);
+        Check.wrong("e1@1p10", 6);
+        Check.wrong("e1@1p1234", 8);
+        Check.wrong("e1@1p12345", 8);
+        Check.wrong("e1@1p1f0", 7);
+        Check.wrong("e1@1p1f10", 8);
+        Check.wrong(aim + "0", 8);
+        Check.wrong(aim + "21", 9);
+        Check.wrong(aim + "1e0", 10);
+        Check.wrong(aim + "1e41", 11);
+        Check.wrong(aim + "1e1>20", 13);
+        Check.wrong(aim + "1e1>1<0", 14);
+        Check.wrong(aim + "1e1>1<1000", 17);
+        Check.wrong(aim + "1e1>1<1w0", 16);
+        Check.wrong(aim + "1e1>1<1w10", 17);
+        Check.wrong("e-1", 1);
+        Check.wrong("e1:", 2);
+        Check.wrong("e1@/", 3);
     }
 
     private static void numbersToldTwice() {
-        wrong("e1@1p1;e1", 8);
-        wrong("e1@1p1;e1@", 8);
-        wrong("e40@1p1;e40", 10);
-        wrong("e1@1p1;a1e1>1<1w1;a1", 19);
-        wrong("e1@1p1;a20e1>1<1w1;a20e", 21);
-        right("e1@1p1;e11@1p1;a1e1>1<1w1;a11e11>1<1w1;", 2);
+        Check.wrong("e1@1p1;e1", 8);
+        Check.wrong("e1@1p1;e1@", 8);
+        Check.wrong("e40@1p1;e40", 10);
+        Check.wrong("e1@1p1;a1e1>1<1w1;a1", 19);
+        Check.wrong("e1@1p1;a20e1>1<1w1;a20e", 21);
+        Check.right("e1@1p1;e11@1p1;a1e1>1<1w1;a11e11>1<1w1;", 2);
     }
 
     private static void blanks() {
-        right("  e  1  @  1  p  1  !  f  1  ;  a 2 e 1 > 3 < 4 w 5 ;  ", 1);
-        right(" e 12 > 3 + 44 ~ 555 p 6 ; ", 1);
-        wrong("e1 2", 3);
-        wrong("e 1 @ 1 0", 8);
-        wrong("e1@1p1 ! f 1 2", 13);
-        wrong("e ", 2);
-        wrong("e1@1p1  ", 8);
-        wrong("e1@1p1;e1  ", 8);
+        Check.right("  e  1  @  1  p  1  !  f  1  ;  a 2 e 1 > 3 < 4 w 5 ;  ", 1);
+        Check.right(" e 12 > 3 + 44 ~ 555 p 6 ; ", 1);
+        Check.wrong("e1 2", 3);
+        Check.wrong("e 1 @ 1 0", 8);
+        Check.wrong("e1@1p1 ! f 1 2", 13);
+        Check.wrong("e ", 2);
+        Check.wrong("e1@1p1  ", 8);
+        Check.wrong("e1@1p1;e1  ", 8);
     }
 
     private static void tapeIsUsedUp() {
